@@ -459,7 +459,7 @@ public final class MiddleBridge {
 
         /** Steps over one of these signs and tells it; 0 where none of them stands. */
         private int either(int a, int b, int c) {
-            int sign = sign();
+            int sign = at(place);
             if (!sound() || sign != a && sign != b && sign != c) {
                 return 0;
             }
@@ -484,7 +484,7 @@ public final class MiddleBridge {
             }
             int number = 0;
             for (int digits = 0; digits < most && digit(); digits++) {
-                number = number * 10 + sign() - '0';
+                number = number * 10 + at(place) - '0';
                 place++;
             }
             if (digit()) {
@@ -802,7 +802,7 @@ public final class MiddleBridge {
 
         private boolean someHolds(int kind, int[] letters) {
             for (int rule = 0; rule < size; rule++) {
-                if (get(kinds, rule) == kind && holds(rule, letters)) {
+                if (get(kinds, rule) == kind && reckon(get(testAt, rule), get(endAt, rule), letters) != 0) {
                     return true;
                 }
             }
@@ -811,16 +811,12 @@ public final class MiddleBridge {
 
         private int amount(int kind, int most, int[] letters) {
             for (int rule = 0; rule < size; rule++) {
-                if (get(kinds, rule) == kind && holds(rule, letters)) {
+                if (get(kinds, rule) == kind && reckon(get(testAt, rule), get(endAt, rule), letters) != 0) {
                     int amount = reckon(get(amountAt, rule), get(testAt, rule), letters);
                     return Math.max(0, Math.min(amount, most));
                 }
             }
             return 0;
-        }
-
-        private boolean holds(int rule, int[] letters) {
-            return reckon(get(testAt, rule), get(endAt, rule), letters) != 0;
         }
 
         /** What is REFUSED answers 0: an E is 0 then, and a C does not hold. */

@@ -180,6 +180,17 @@ public final class DaysTest {
         C.due("touches(240, 1)", y.touches(240, 1), 2);
         MiddleBridge z = bridge("4", "5", "w1(1=1)", "s+50");
         C.due("touches(240, 1)", z.touches(240, 1), 0);
+        // the last one of the days
+        MiddleBridge v = bridge("240,240", "241", "w1(e=0);w1(e=1);n1(1=1)", "s+9999");
+        C.due("ahead(239)", v.ahead(239), 0);
+        C.due("ahead(240)", v.ahead(240), 1);
+        C.due("beyond(240, 239)", v.beyond(240, 239), 240);
+        C.due("beyond(239, 239)", v.beyond(239, 239), -2);
+        Checks.plan(v, 0, "240");
+        C.due("touches(240, 0)", v.touches(240, 0), 240);
+        C.due("touches(240, 1)", v.touches(240, 1), 0);
+        C.due("touches(239, 0)", v.touches(239, 0), -2);
+        C.due("days(240)", v.days(240), 480);
     }
 
     private static int[] state(MiddleBridge x) {

@@ -41,6 +41,8 @@ public final class PuzzlesTest {
         C.due("slower and higher", X.leastSpeed(1, 99, 99, 20), 1);
         C.due("a slow one that is still low", X.leastSpeed(20, 6, 0, 3), 5);
         C.due("none", X.leastSpeed(1, 7, 0, 3), -2);
+        C.due("the greatest speed", X.leastSpeed(20, 0, 0, 0), 20);
+        C.due("none but a greater speed", X.leastSpeed(21, 0, 0, 0), -2);
         C.due("none", X.leastSpeed(200, 0, 0, 0), -2);
         int[] good = {10, 5, 5, 5, 5};
         int[][] wrong = {{0, 201, -1, LOW, HIGH}, {-1, 100, LOW, HIGH, 101}, {-1, 100, LOW, HIGH, 101},
