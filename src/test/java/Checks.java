@@ -57,6 +57,16 @@ final class Checks {
         return x.law(text.length());
     }
 
+    /** A bridge by these texts, each of which must be right; an empty one is not told. */
+    MiddleBridge bridge(String left, String right, String law, String orders) {
+        MiddleBridge x = new MiddleBridge();
+        due("plan " + left, left.isEmpty() || plan(x, 0, left) > 0, true);
+        due("plan " + right, right.isEmpty() || plan(x, 1, right) > 0, true);
+        due("law " + law, law.isEmpty() || law(x, law) > 0, true);
+        due("orders " + orders, orders.isEmpty() || orders(x, orders) > 0, true);
+        return x;
+    }
+
     static String times(String text, int n, String between) {
         StringBuilder all = new StringBuilder(text);
         for (int i = 1; i < n; i++) {

@@ -13,23 +13,8 @@ public final class DaysTest {
         C.end("DaysTest");
     }
 
-    private static MiddleBridge bridge(String left, String right, String law, String orders) {
-        MiddleBridge x = new MiddleBridge();
-        if (!left.isEmpty()) {
-            C.due("plan " + left, Checks.plan(x, 0, left) > 0, true);
-        }
-        if (!right.isEmpty()) {
-            C.due("plan " + right, Checks.plan(x, 1, right) > 0, true);
-        }
-        C.due("law " + law, Checks.law(x, law) > 0, true);
-        if (!orders.isEmpty()) {
-            C.due("orders " + orders, Checks.orders(x, orders) > 0, true);
-        }
-        return x;
-    }
-
     private static void laying() {
-        MiddleBridge x = bridge("10,10", "10,10", "w7(1=1);c3(1=1);i4(1=1);n2(1=1)", "s+6");
+        MiddleBridge x = C.bridge("10,10", "10,10", "w7(1=1);c3(1=1);i4(1=1);n2(1=1)", "s+6");
         // 10 in store: 7 left, 3 right, 10 * 3 and 2 pence
         C.due("days(1)", x.days(1), 10);
         C.due("left", x.sideIs(0, 2), 7);
@@ -42,21 +27,21 @@ public final class DaysTest {
         C.due("right", x.sideIs(1, 2), 3);
         C.due("debt", x.count(2), 32 + 24 + 4);
         // the left one lays no more than its plan needs, the right one has the rest
-        MiddleBridge y = bridge("3", "10", "w9(1=1)", "s+10");
+        MiddleBridge y = C.bridge("3", "10", "w9(1=1)", "s+10");
         C.due("days(1)", y.days(1), 10);
         C.due("left", y.sideIs(0, 2), 3);
         C.due("right", y.sideIs(1, 2), 7);
         // more laid than the plan needs
-        MiddleBridge z = bridge("3", "", "w9(1=1)", "s+10;l+5;r+5");
+        MiddleBridge z = C.bridge("3", "", "w9(1=1)", "s+10;l+5;r+5");
         C.due("days(1)", z.days(1), 0);
         C.due("left", z.sideIs(0, 2), 5);
         C.due("right without a plan", z.sideIs(1, 2), 5);
         // the right one sees the store and the debt as they are then
-        MiddleBridge v = bridge("99", "99", "w10(e=0);ws(e=1);c100(e=0);ck(e=1)", "s+13");
+        MiddleBridge v = C.bridge("99", "99", "w10(e=0);ws(e=1);c100(e=0);ck(e=1)", "s+13");
         C.due("days(1)", v.days(1), 13);
         C.due("debt", v.count(2), 10 * 99 + 3 * 9);
         // the store and the debt that i and n see are those ahead of both
-        MiddleBridge u = bridge("1", "1", "ns(1=1);i5+k(1=1)", "s+7;d+300");
+        MiddleBridge u = C.bridge("1", "1", "ns(1=1);i5+k(1=1)", "s+7;d+300");
         C.due("days(1)", u.days(1), 0);
         C.due("debt", u.count(2), 307);
         C.due("store", u.count(1), 15);
@@ -64,7 +49,7 @@ public final class DaysTest {
 
     private static void waiting() {
         // the second arch waits for the right one's first
-        MiddleBridge x = bridge("10,10,10", "10,10", "w99(e=0)", "s+100");
+        MiddleBridge x = C.bridge("10,10,10", "10,10", "w99(e=0)", "s+100");
         C.due("days(1)", x.days(1), 19);
         C.due("store", x.count(1), 81);
         C.due("days(1)", x.days(1), 0);
@@ -76,26 +61,26 @@ public final class DaysTest {
         C.due("days(1)", x.days(1), 1);
         C.due("left touches", x.sideIs(0, 5), 1);
         // far ahead by orders: the next one waits, too
-        MiddleBridge y = bridge("5,5,5,5", "5,5", "w99(e=0)", "s+100;l+11");
+        MiddleBridge y = C.bridge("5,5,5,5", "5,5", "w99(e=0)", "s+100;l+11");
         C.due("days(1)", y.days(1), 3);
         C.due("left", y.sideIs(0, 2), 14);
         // without a plan of the other side nothing waits
-        MiddleBridge z = bridge("5,5,5,5", "", "w99(e=0)", "s+100");
+        MiddleBridge z = C.bridge("5,5,5,5", "", "w99(e=0)", "s+100");
         C.due("days(1)", z.days(1), 20);
         // of an arch of one stone none is laid
-        MiddleBridge v = bridge("5,1,1", "5", "w99(e=0);c1(1=1)", "s+100");
+        MiddleBridge v = C.bridge("5,1,1", "5", "w99(e=0);c1(1=1)", "s+100");
         C.due("days(1)", v.days(1), 5);
         C.due("they cost nothing", v.count(2), 5);
         // the right one may go on in the same day by what the left one has built then
-        MiddleBridge u = bridge("5,5", "5,5", "w5(e=0);w99(e=1)", "s+100");
+        MiddleBridge u = C.bridge("5,5", "5,5", "w5(e=0);w99(e=1)", "s+100");
         C.due("days(1)", u.days(1), 15);
         C.due("right touches", u.sideIs(1, 5), 1);
-        MiddleBridge t = bridge("5,5", "5,5", "w4(e=0);w99(e=1)", "s+100");
+        MiddleBridge t = C.bridge("5,5", "5,5", "w4(e=0);w99(e=1)", "s+100");
         C.due("days(1)", t.days(1), 13);
     }
 
     private static void falling() {
-        MiddleBridge x = bridge("10,20", "10,10", "w0(1=1)", "l+35;r+15;lb2:5");
+        MiddleBridge x = C.bridge("10,20", "10,10", "w0(1=1)", "l+35;r+15;lb2:5");
         C.due("weights differ by", x.count(8), 50);
         x.tilt(50);
         C.due("none falls", x.tried(1, 1), 0);
@@ -108,21 +93,21 @@ public final class DaysTest {
         C.due("its bench stays", x.archIs(0, 2, 2), 5);
         C.due("weights differ by", x.count(8), 0);
         // the right one is the heavier one, once a day
-        MiddleBridge y = bridge("1", "2,2,2", "w0(1=1)", "r+6");
+        MiddleBridge y = C.bridge("1", "2,2,2", "w0(1=1)", "r+6");
         y.tilt(0);
         C.due("one a day", y.tried(1, 1), 1);
         C.due("right", y.tried(1, 11), 2);
         C.due("all of them", y.tried(9, 1), 3);
         C.due("none stands", y.tried(9, 11), 0);
         // one that touches falls and touches no more
-        MiddleBridge z = bridge("5", "9", "w5(e=0)", "s+9");
+        MiddleBridge z = C.bridge("5", "9", "w5(e=0)", "s+9");
         z.tilt(4);
         C.due("touches", z.touches(1, 0), -2);
         C.due("laid again each day", z.tried(9, 0), 9);
     }
 
     private static void bounds() {
-        MiddleBridge x = bridge("255", "", "i999(1=1);n9999(1=1);w99(1=1);c99(1=1)", "");
+        MiddleBridge x = C.bridge("255", "", "i999(1=1);n9999(1=1);w99(1=1);c99(1=1)", "");
         x.days(240);
         C.due("store", x.count(1), 99999);
         C.due("debt", x.count(2), 999999);
@@ -134,7 +119,7 @@ public final class DaysTest {
         C.due("none goes by", x.tried(240, 0), 0);
         Checks.orders(x, "l-1");
         C.due("none touches", x.touches(240, 0), -2);
-        MiddleBridge y = bridge("2x255", "", "w1(1=1);i1(1=1)", "");
+        MiddleBridge y = C.bridge("2x255", "", "w1(1=1);i1(1=1)", "");
         for (int i = 0; i < 41; i++) {
             y.days(240);
         }
@@ -144,7 +129,7 @@ public final class DaysTest {
 
     private static void asking() {
         // left 2 a day, right 3 a day from the third day on
-        MiddleBridge x = bridge("6,6", "6", "w2(e=0);w3(t>1);c5(1=1)", "s+50;l+1;d+10");
+        MiddleBridge x = C.bridge("6,6", "6", "w2(e=0);w3(t>1);c5(1=1)", "s+50;l+1;d+10");
         int[] before = state(x);
         C.due("touches(240, 0)", x.touches(240, 0), 4);
         C.due("touches(4, 0)", x.touches(4, 0), 4);
@@ -175,13 +160,13 @@ public final class DaysTest {
         C.due("days(4)", x.days(4), 14);
         C.due("right touches", x.sideIs(1, 5), 1);
         // both at once
-        MiddleBridge y = bridge("4", "4", "w1(1=1)", "s+50");
+        MiddleBridge y = C.bridge("4", "4", "w1(1=1)", "s+50");
         C.due("touches(240, 0)", y.touches(240, 0), 4);
         C.due("touches(240, 1)", y.touches(240, 1), 2);
-        MiddleBridge z = bridge("4", "5", "w1(1=1)", "s+50");
+        MiddleBridge z = C.bridge("4", "5", "w1(1=1)", "s+50");
         C.due("touches(240, 1)", z.touches(240, 1), 0);
         // the last one of the days
-        MiddleBridge v = bridge("240,240", "241", "w1(e=0);w1(e=1);n1(1=1)", "s+9999");
+        MiddleBridge v = C.bridge("240,240", "241", "w1(e=0);w1(e=1);n1(1=1)", "s+9999");
         C.due("ahead(239)", v.ahead(239), 0);
         C.due("ahead(240)", v.ahead(240), 1);
         C.due("beyond(240, 239)", v.beyond(240, 239), 240);
@@ -198,7 +183,7 @@ public final class DaysTest {
     }
 
     private static void askingNow() {
-        MiddleBridge x = bridge("1,1,1,1", "9", "w1(1=1)", "l+4;d+1");
+        MiddleBridge x = C.bridge("1,1,1,1", "9", "w1(1=1)", "l+4;d+1");
         C.due("touches(1, 0)", x.touches(1, 0), 0);
         C.due("touches(1, 1)", x.touches(1, 1), 0);
         C.due("ahead(1)", x.ahead(1), 4);
@@ -213,7 +198,7 @@ public final class DaysTest {
     }
 
     private static void refused() {
-        MiddleBridge x = bridge("5", "5", "w1(1=1)", "s+5");
+        MiddleBridge x = C.bridge("5", "5", "w1(1=1)", "s+5");
         int[] wrong = {0, -1, 241, Integer.MIN_VALUE, Integer.MAX_VALUE};
         for (int n : wrong) {
             C.due("days", x.days(n), -1);
