@@ -144,6 +144,13 @@ public final class LawEdgesTest {
             only("we", c, goesOn || c == '(');
             only("w1+", c, factor);
             only("w1*", c, factor);
+            only("w1+2", c, digit || goesOn || c == '(');
+            only("w1-2", c, digit || goesOn || c == '(');
+            only("w1*2", c, digit || goesOn || c == '(');
+            only("w1/e", c, goesOn || c == '(');
+            only("w1%2*e-a", c, goesOn || c == '(');
+            only("x(1<2+3", c, digit || goesOn || joins || c == ')');
+            only("x(1>2%e", c, goesOn || joins || c == ')');
             only("w[", c, factor);
             only("w[e", c, goesOn || c == ']');
             only("w[e]", c, goesOn || c == '(');
@@ -225,11 +232,29 @@ public final class LawEdgesTest {
             C.due("n of the one before", x.count(2), 7 * (i + 1));
             C.due("i of the one before", x.count(1), 3 * (i + 1));
         }
+        inPlaceOfTheOneBefore(x, 7 * wrong.length, 3 * wrong.length);
+    }
+
+    private static void inPlaceOfTheOneBefore(MiddleBridge x, int debt, int store) {
         // "in place of the one before": none of the old RULES is left
         C.due("law", Checks.law(x, "i1(1=1)"), 1);
         C.due("count(5)", x.count(5), 1);
         x.days(1);
-        C.due("n is gone", x.count(2), 7 * wrong.length);
-        C.due("i is the new one", x.count(1), 3 * wrong.length + 1);
+        C.due("n is gone", x.count(2), debt);
+        C.due("i is the new one", x.count(1), store + 1);
+        // longer and shorter ones by turns
+        String[] laws = {"n1(!!!1=2)", "n2(1=1)", "n3(1=1&!1=2)", "n4(!(1=1)|e=0)", "n5(1=1)", "n6+1-1*1(1=1);n7(1=1)", "n8(1=1)"};
+        for (int turn = 0; turn < 3; turn++) {
+            for (int i = 0; i < laws.length; i++) {
+                for (int j = 0; j < laws.length; j++) {
+                    for (int one : new int[] {i, j}) {
+                        Checks.law(x, laws[one]);
+                        C.due(laws[one], x.tried(1, 2), debt + laws[one].charAt(1) - '0');
+                    }
+                    x = j % 3 == 2 ? new MiddleBridge() : x;
+                    debt = x.count(2);
+                }
+            }
+        }
     }
 }

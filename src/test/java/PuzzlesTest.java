@@ -4,7 +4,7 @@ public final class PuzzlesTest {
     private static final int LOW = Integer.MIN_VALUE;
     private static final int HIGH = Integer.MAX_VALUE;
 
-    private static final MiddleBridge X = new MiddleBridge();
+    private static MiddleBridge bridge = new MiddleBridge();
 
     public static void main(String[] args) {
         ball();
@@ -13,6 +13,8 @@ public final class PuzzlesTest {
         claims();
         rowed();
         wed();
+        // an object is used for at most 512 calls
+        bridge = new MiddleBridge();
         changes();
         dialect();
         owed();
@@ -20,30 +22,30 @@ public final class PuzzlesTest {
     }
 
     private static void empty(String call) {
-        C.due("the tape is empty behind " + call, X.count(6), 0);
+        C.due("the tape is empty behind " + call, bridge.count(6), 0);
     }
 
     private static void ball() {
-        C.due("at once", X.ball(1, 0, 0, 1, 0), 1);
-        C.due("on the rail", X.ball(1, 5, 3, 20, 2), 1);
-        C.due("below the rail", X.ball(1, 6, 3, 20, 2), 0);
+        C.due("at once", bridge.ball(1, 0, 0, 1, 0), 1);
+        C.due("on the rail", bridge.ball(1, 5, 3, 20, 2), 1);
+        C.due("below the rail", bridge.ball(1, 6, 3, 20, 2), 0);
         // from 0 by 3: 3, 5, 6, 6, 5, 3, 0, -4
-        C.due("falls on 0", X.ball(14, 0, 0, 2, 3), 1);
-        C.due("falls below 0", X.ball(15, 0, 0, 2, 3), 0);
-        C.due("ahead of the gap it may be at 0", X.ball(7, 0, 0, 1, 3), 1);
-        C.due("over the first rail that it meets", X.ball(5, 6, 0, 2, 3), 1);
-        C.due("over the first rail that it meets", X.ball(4, 6, 0, 2, 3), 0);
-        C.due("was below 0", X.ball(200, 0, 0, 1, 0), 0);
-        C.due("far", X.ball(200, 99, 99, 20, 20), 1);
-        C.due("leastSpeed", X.leastSpeed(14, 0, 0, 3), 2);
-        C.due("leastSpeed", X.leastSpeed(15, 0, 0, 3), 3);
-        C.due("leastSpeed", X.leastSpeed(14, 6, 0, 3), 4);
-        C.due("slower and higher", X.leastSpeed(1, 99, 99, 20), 1);
-        C.due("a slow one that is still low", X.leastSpeed(20, 6, 0, 3), 5);
-        C.due("none", X.leastSpeed(1, 7, 0, 3), -2);
-        C.due("the greatest speed", X.leastSpeed(20, 0, 0, 0), 20);
-        C.due("none but a greater speed", X.leastSpeed(21, 0, 0, 0), -2);
-        C.due("none", X.leastSpeed(200, 0, 0, 0), -2);
+        C.due("falls on 0", bridge.ball(14, 0, 0, 2, 3), 1);
+        C.due("falls below 0", bridge.ball(15, 0, 0, 2, 3), 0);
+        C.due("ahead of the gap it may be at 0", bridge.ball(7, 0, 0, 1, 3), 1);
+        C.due("over the first rail that it meets", bridge.ball(5, 6, 0, 2, 3), 1);
+        C.due("over the first rail that it meets", bridge.ball(4, 6, 0, 2, 3), 0);
+        C.due("was below 0", bridge.ball(200, 0, 0, 1, 0), 0);
+        C.due("far", bridge.ball(200, 99, 99, 20, 20), 1);
+        C.due("leastSpeed", bridge.leastSpeed(14, 0, 0, 3), 2);
+        C.due("leastSpeed", bridge.leastSpeed(15, 0, 0, 3), 3);
+        C.due("leastSpeed", bridge.leastSpeed(14, 6, 0, 3), 4);
+        C.due("slower and higher", bridge.leastSpeed(1, 99, 99, 20), 1);
+        C.due("a slow one that is still low", bridge.leastSpeed(20, 6, 0, 3), 5);
+        C.due("none", bridge.leastSpeed(1, 7, 0, 3), -2);
+        C.due("the greatest speed", bridge.leastSpeed(20, 0, 0, 0), 20);
+        C.due("none but a greater speed", bridge.leastSpeed(21, 0, 0, 0), -2);
+        C.due("none", bridge.leastSpeed(200, 0, 0, 0), -2);
         int[] good = {10, 5, 5, 5, 5};
         int[][] wrong = {{0, 201, -1, LOW, HIGH}, {-1, 100, LOW, HIGH, 101}, {-1, 100, LOW, HIGH, 101},
             {0, 21, -1, LOW, HIGH}, {-1, 21, LOW, HIGH, 22}};
@@ -51,9 +53,9 @@ public final class PuzzlesTest {
             for (int bad : wrong[i]) {
                 int[] a = good.clone();
                 a[i] = bad;
-                C.due("ball wrong " + i + ": " + bad, X.ball(a[0], a[1], a[2], a[3], a[4]), -1);
+                C.due("ball wrong " + i + ": " + bad, bridge.ball(a[0], a[1], a[2], a[3], a[4]), -1);
                 if (i != 3) {
-                    C.due("leastSpeed wrong " + i + ": " + bad, X.leastSpeed(a[0], a[1], a[2], a[4]), -1);
+                    C.due("leastSpeed wrong " + i + ": " + bad, bridge.leastSpeed(a[0], a[1], a[2], a[4]), -1);
                 }
             }
         }
@@ -65,8 +67,8 @@ public final class PuzzlesTest {
             for (int i = 0; i < 8; i++) {
                 bytes[i] = (int) (places >>> 8 * i & 255);
             }
-            Checks.feed(X, bytes);
-            C.due("piles(" + length + ", " + span + ", " + what + ")", X.piles(length, span, what), what == 0 ? many : last);
+            Checks.feed(bridge, bytes);
+            C.due("piles(" + length + ", " + span + ", " + what + ")", bridge.piles(length, span, what), what == 0 ? many : last);
             empty("piles");
         }
     }
@@ -88,20 +90,20 @@ public final class PuzzlesTest {
         piles(1L << 4 | 1L << 6, 10, 6, 1, 4);
         piles(1L << 3 | 1L << 4 | 1L << 7, 10, 4, 2, 7);
         piles(1L << 3 | 1L << 7, 10, 3, -2, -2);
-        Checks.feed(X, 1);
+        Checks.feed(bridge, 1);
         int[][] wrong = {{0, 1, 0}, {61, 1, 0}, {1, 0, 0}, {1, 61, 0}, {1, 1, -1}, {1, 1, 2}, {LOW, HIGH, 0}};
         for (int[] w : wrong) {
-            C.due("piles wrong", X.piles(w[0], w[1], w[2]), -1);
+            C.due("piles wrong", bridge.piles(w[0], w[1], w[2]), -1);
         }
-        C.due("the tape stays", X.count(6), 20);
-        X.piles(1, 1, 0);
-        C.due("piles of no tape", X.piles(1, 1, 0), -1);
+        C.due("the tape stays", bridge.count(6), 20);
+        bridge.piles(1, 1, 0);
+        C.due("piles of no tape", bridge.piles(1, 1, 0), -1);
     }
 
     private static void lamps(int far, int many, int bits, int... may) {
         for (int what = 0; what < 2; what++) {
-            Checks.feed(X, may);
-            C.due("lamps(" + may.length + ", " + far + ", " + what + ")", X.lamps(may.length, far, what), what == 0 ? many : bits);
+            Checks.feed(bridge, may);
+            C.due("lamps(" + may.length + ", " + far + ", " + what + ")", bridge.lamps(may.length, far, what), what == 0 ? many : bits);
             empty("lamps");
         }
     }
@@ -121,21 +123,21 @@ public final class PuzzlesTest {
         lamps(5, 2, 1 | 1 << 11, 1, 0, 0, 0, 0, 0, 0, 0, 0, 0, 0, 1);
         lamps(5, 1, 1 << 5, 1, 1, 1, 1, 1, 1, 1, 1, 1, 1, 1);
         lamps(0, 12, 4095, 1, 1, 1, 1, 1, 1, 1, 1, 1, 1, 1, 1);
-        Checks.feed(X, 1, 1, 1);
+        Checks.feed(bridge, 1, 1, 1);
         int[][] wrong = {{0, 1, 0}, {13, 1, 0}, {1, -1, 0}, {1, 6, 0}, {1, 1, -1}, {1, 1, 2}, {LOW, 0, 0}, {HIGH, 0, 0}};
         for (int[] w : wrong) {
-            C.due("lamps wrong", X.lamps(w[0], w[1], w[2]), -1);
+            C.due("lamps wrong", bridge.lamps(w[0], w[1], w[2]), -1);
         }
-        C.due("the tape stays", X.count(6), 20);
-        X.lamps(1, 1, 0);
-        C.due("lamps of no tape", X.lamps(1, 1, 0), -1);
+        C.due("the tape stays", bridge.count(6), 20);
+        bridge.lamps(1, 1, 0);
+        C.due("lamps of no tape", bridge.lamps(1, 1, 0), -1);
     }
 
     private static void claims(int byBoth, int byNobody, int most, int... places) {
         int[] due = {byBoth, byNobody, most};
         for (int what = 0; what < 3; what++) {
-            Checks.feed(X, places);
-            C.due("claims(" + places.length / 2 + ", " + what + ")", X.claims(places.length / 2, what), due[what]);
+            Checks.feed(bridge, places);
+            C.due("claims(" + places.length / 2 + ", " + what + ")", bridge.claims(places.length / 2, what), due[what]);
             empty("claims");
         }
     }
@@ -150,21 +152,21 @@ public final class PuzzlesTest {
         claims(2, 0, 10, 7, 9, 7, 9, 7, 9, 7, 9, 7, 9, 7, 9, 7, 9, 7, 9, 7, 21, 7, 9);
         claims(-2, -2, -2, 5, 5);
         claims(-2, -2, -2, 1, 2, 6, 5);
-        Checks.feed(X, 1, 2, 6, 5);
-        C.due("it is not asked", X.claims(1, 2), 1);
-        Checks.feed(X, 1, 2, 3);
+        Checks.feed(bridge, 1, 2, 6, 5);
+        C.due("it is not asked", bridge.claims(1, 2), 1);
+        Checks.feed(bridge, 1, 2, 3);
         int[][] wrong = {{0, 0}, {11, 0}, {1, -1}, {1, 3}, {LOW, 0}, {HIGH, 0}, {1 << 30, 0}, {-1 << 31 | 1, 0}};
         for (int[] w : wrong) {
-            C.due("claims wrong", X.claims(w[0], w[1]), -1);
+            C.due("claims wrong", bridge.claims(w[0], w[1]), -1);
         }
-        C.due("the tape stays", X.count(6), 20);
-        X.claims(1, 0);
-        C.due("claims of no tape", X.claims(1, 0), -1);
+        C.due("the tape stays", bridge.count(6), 20);
+        bridge.claims(1, 0);
+        C.due("claims of no tape", bridge.claims(1, 0), -1);
     }
 
     private static void rowed(int due, int... minutes) {
-        Checks.feed(X, minutes);
-        C.due("rowed(" + minutes.length + ")", X.rowed(minutes.length), due);
+        Checks.feed(bridge, minutes);
+        C.due("rowed(" + minutes.length + ")", bridge.rowed(minutes.length), due);
         empty("rowed");
     }
 
@@ -180,19 +182,19 @@ public final class PuzzlesTest {
         rowed(60, 5, 10, 20, 25);
         rowed(0, 0, 0, 0, 0);
         rowed(255 * 17, 255, 255, 255, 255, 255, 255, 255, 255, 255, 255);
-        Checks.feed(X, 1, 2, 3);
+        Checks.feed(bridge, 1, 2, 3);
         for (int n : new int[] {0, -1, 11, 21, LOW, HIGH}) {
-            C.due("rowed(" + n + ")", X.rowed(n), -1);
+            C.due("rowed(" + n + ")", bridge.rowed(n), -1);
         }
-        C.due("the tape stays", X.count(6), 20);
-        X.rowed(1);
-        C.due("rowed of no tape", X.rowed(1), -1);
+        C.due("the tape stays", bridge.count(6), 20);
+        bridge.rowed(1);
+        C.due("rowed of no tape", bridge.rowed(1), -1);
     }
 
     private static void wed(int n, int[] weds, int... rows) {
         for (int man = 0; man < n; man++) {
-            Checks.feed(X, rows);
-            C.due("wed(" + n + ", " + man + ")", X.wed(n, man), weds[man]);
+            Checks.feed(bridge, rows);
+            C.due("wed(" + n + ", " + man + ")", bridge.wed(n, man), weds[man]);
             empty("wed");
         }
     }
@@ -210,19 +212,19 @@ public final class PuzzlesTest {
         wed(2, new int[] {-2, -2}, 0, 1, 1, 0, 1, 0, 0, 2);
         wed(1, new int[] {-2}, 0, 1);
         wed(1, new int[] {-2}, 255, 0);
-        Checks.feed(X, 0, 1, 0);
+        Checks.feed(bridge, 0, 1, 0);
         int[][] wrong = {{0, 0}, {6, 0}, {1, 1}, {1, -1}, {2, 2}, {4, 0}, {LOW, 0}, {HIGH, 0}, {1 << 16, 0}};
         for (int[] w : wrong) {
-            C.due("wed wrong", X.wed(w[0], w[1]), -1);
+            C.due("wed wrong", bridge.wed(w[0], w[1]), -1);
         }
-        C.due("the tape stays", X.count(6), 20);
-        X.wed(1, 0);
-        C.due("wed of no tape", X.wed(1, 0), -1);
+        C.due("the tape stays", bridge.count(6), 20);
+        bridge.wed(1, 0);
+        C.due("wed of no tape", bridge.wed(1, 0), -1);
     }
 
     private static void changes(int due, int... row) {
-        Checks.feed(X, row);
-        C.due("changes(" + row.length + ")", X.changes(row.length), due);
+        Checks.feed(bridge, row);
+        C.due("changes(" + row.length + ")", bridge.changes(row.length), due);
         empty("changes");
     }
 
@@ -242,25 +244,25 @@ public final class PuzzlesTest {
         changes(-2, 0, 2);
         changes(-2, 1, 2, 3);
         changes(-2, 0, 1, 2, 3, 4, 255);
-        Checks.feed(X, 0, 1);
+        Checks.feed(bridge, 0, 1);
         for (int n : new int[] {1, 0, -1, 7, LOW, HIGH}) {
-            C.due("changes(" + n + ")", X.changes(n), -1);
+            C.due("changes(" + n + ")", bridge.changes(n), -1);
         }
-        C.due("the tape stays", X.count(6), 20);
-        X.changes(2);
-        C.due("changes of no tape", X.changes(2), -1);
+        C.due("the tape stays", bridge.count(6), 20);
+        bridge.changes(2);
+        C.due("changes of no tape", bridge.changes(2), -1);
     }
 
     private static void dialect() {
         int[][] due = {{1, 0, 0, -2}, {1, 1, 2, 0}, {1, 8, 2, 0}, {8, 0, 0, -2}, {8, 8, 256, 0}, {8, 7, 254, 1},
             {8, 1, 2, 0x55}, {3, 1, 2, 2}, {3, 2, 6, 1}, {4, 2, 10, 2}, {5, 2, 16, 4}, {2, 1, 2, 1}};
         for (int[] d : due) {
-            C.due("dialect(" + d[0] + ", " + d[1] + ", 0)", X.dialect(d[0], d[1], 0), d[2]);
-            C.due("dialect(" + d[0] + ", " + d[1] + ", 1)", X.dialect(d[0], d[1], 1), d[3]);
+            C.due("dialect(" + d[0] + ", " + d[1] + ", 0)", bridge.dialect(d[0], d[1], 0), d[2]);
+            C.due("dialect(" + d[0] + ", " + d[1] + ", 1)", bridge.dialect(d[0], d[1], 1), d[3]);
         }
         int[][] wrong = {{0, 1, 0}, {9, 1, 0}, {1, -1, 0}, {1, 9, 0}, {1, 1, -1}, {1, 1, 2}, {LOW, LOW, 0}, {HIGH, HIGH, 0}};
         for (int[] w : wrong) {
-            C.due("dialect wrong", X.dialect(w[0], w[1], w[2]), -1);
+            C.due("dialect wrong", bridge.dialect(w[0], w[1], w[2]), -1);
         }
     }
 

@@ -27,18 +27,19 @@ public final class QuestionEdgesTest {
         wedAtItsEdges();
         wedTellsEachOnce();
         changesAtTheirEdges();
+        changesAgain();
         dialectAtItsEdges();
         owedAtItsEdges();
         owedRoundedUp();
         C.end("QuestionEdgesTest");
     }
 
-    /** A bridge with an empty tape that has answered fewer than 500 calls. */
+    /** A bridge with an empty tape that answers at most four calls more within its 512. */
     private static MiddleBridge fresh() {
-        calls += 3;
-        if (calls > 500) {
+        calls += 4;
+        if (calls > 512) {
             x = new MiddleBridge();
-            calls = 3;
+            calls = 4;
         }
         return x;
     }
@@ -556,6 +557,31 @@ public final class QuestionEdgesTest {
         changes(-2, 0, 1, 2, 3, 4, 4);
         changes(-2, 0, 1, 2, 3, 4, 6);
         changes(-2, 1, 2, 3, 4, 5, 6);
+    }
+
+    /** Rows of 6, 5, .. 2 and again: a bridge that has answered many answers as a new one does. */
+    private static void changesAgain() {
+        for (int code = 0; code < 46656; code += 7) {
+            int n = 6 - code % 5;
+            int[] row = new int[n];
+            int seen = 0;
+            for (int i = 0, rest = code; i < n; i++, rest /= 6) {
+                row[i] = rest % 6;
+                seen |= 1 << row[i];
+            }
+            if (seen == (1 << n) - 1) {
+                MiddleBridge y = new MiddleBridge();
+                Checks.feed(y, row);
+                changes(y.changes(n), row);
+            }
+        }
+        for (int n : new int[] {6, 2, 3, 6, 3, 4, 5, 4, 2}) {
+            int[] row = new int[n];
+            for (int i = 0; i < n; i++) {
+                row[i] = n - 1 - i;
+            }
+            changes(n == 2 ? 1 : n, row);
+        }
     }
 
     private static void dialectAtItsEdges() {

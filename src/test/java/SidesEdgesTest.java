@@ -11,6 +11,7 @@ public final class SidesEdgesTest {
         weight();
         benchesBeyondThePlan();
         newPlan();
+        shorterPlan();
         sidesAreApart();
         numbersOfArches();
         C.end("SidesEdgesTest");
@@ -132,6 +133,25 @@ public final class SidesEdgesTest {
         C.due("store", x.count(1), 2);
         C.due("debt", x.count(2), 3);
         C.due("the day", x.count(0), 1);
+    }
+
+    /** A shorter PLAN in place of a longer one: no ARCH of the one before is left. */
+    private static void shorterPlan() {
+        for (int side = 0; side < 2; side++) {
+            for (int many = 20; many >= 1; many--) {
+                MiddleBridge x = new MiddleBridge();
+                Checks.plan(x, side, Checks.times("5", 20, ","));
+                laid(x, side, 100);
+                C.due("20 stand", x.sideIs(side, 1), 20);
+                Checks.plan(x, side, Checks.times("5", many, ","));
+                sideIs(x, side, many, many, 100, 0, 5 * many * (many + 1) / 2, 1, 5 * many);
+                laid(x, side, 5 * many + 6);
+                C.due("no more than there are", x.sideIs(side, 1), many);
+                laid(x, side, 5 * many - 1);
+                C.due("one lacks a stone", x.sideIs(side, 1), many - 1);
+                C.due("h", x.sideIs(side, 3), 1);
+            }
+        }
     }
 
     private static void sidesAreApart() {
